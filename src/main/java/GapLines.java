@@ -143,9 +143,8 @@ public final class GapLines {
     }
 
     public int set(int what, int v) throws IllegalArgumentException {
-        requireSetting(what);
         if (!isSettingValue(what, v)) {
-            throw new IllegalArgumentException("the setting has no such value");
+            throw new IllegalArgumentException("no such setting, or it has no such value");
         }
         history.remember(state);
         int previous = state.settingOf(what);
@@ -597,14 +596,6 @@ public final class GapLines {
 
         // Commands of texts and scripts: each answers whether the method of that name would not throw.
 
-        boolean doMake(int n, int newKey, int newSpares) {
-            if (!isShape(n, newKey)) {
-                return false;
-            }
-            begin(n, newKey, newSpares);
-            return true;
-        }
-
         boolean doWrite(int l, int v) {
             if (!hasLine(l) || !isValue(v) || dead) {
                 return false;
@@ -767,7 +758,9 @@ public final class GapLines {
 
         /** Does what the story tells, and answers how many commands are left out. */
         int tellTo(State state) {
-            state.doMake(numberAt(1, 2), numberAt(3, 2), numberAt(5, 1));
+            if (isShape(numberAt(1, 2), numberAt(3, 2))) {
+                state.begin(numberAt(1, 2), numberAt(3, 2), numberAt(5, 1));
+            }
             int leftOut = 0;
             int next = HEAD;
             for (int at = HEAD; at < length; at++) {

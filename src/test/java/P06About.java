@@ -30,7 +30,46 @@ public final class P06About {
         Check.type(gone, "L04020");
         gone.load();
         due(c, "no store behind one", gone, 0, 0, 0, 0, 0, 0, 0, 0, 0, 0, 0, 0);
+        eachPlaceCounts(c);
         c.end();
+    }
+
+    /** Each place is once the only one with the greatest wear, and once the only one with the least. */
+    private static void eachPlaceCounts(Check c) {
+        boolean[] mostAt = new boolean[5];
+        boolean[] leastAt = new boolean[5];
+        GapLines x = Check.store(4, 3, 4, 999, 3);
+        for (int i = 0; i < 500; i++) {
+            int most = 0;
+            int least = 0;
+            for (int p = 1; p < 5; p++) {
+                most = x.wear(p) > x.wear(most) ? p : most;
+                least = x.wear(p) < x.wear(least) ? p : least;
+            }
+            int due6 = x.wear(most);
+            int due7 = x.wear(least);
+            c.answers("about(6)", due6, () -> x.about(6));
+            c.answers("about(7)", due7, () -> x.about(7));
+            int mosts = 0;
+            int leasts = 0;
+            for (int p = 0; p < 5; p++) {
+                mosts += x.wear(p) == due6 ? 1 : 0;
+                leasts += x.wear(p) == due7 ? 1 : 0;
+            }
+            mostAt[most] |= mosts == 1;
+            leastAt[least] |= leasts == 1;
+            int l = i / 25 % 5;
+            if (i % 10 < 8) {
+                x.write(l == 4 ? 0 : l, 1);
+            } else {
+                x.all(1);
+            }
+        }
+        for (int p = 0; p < 5; p++) {
+            if (!mostAt[p] || !leastAt[p]) {
+                c.tell("the place " + p + " was never the only one with the greatest wear or with the least");
+            }
+        }
     }
 
     private static void due(Check c, String which, GapLines x, int... numbers) {

@@ -50,6 +50,30 @@ public final class P17Undo {
         C.same("behind a round again", Check.BEHIND_ROUND, Check.seen(x));
     }
 
+    /** The largest store has its last lines and places remembered, too. */
+    private static void allPlaces() {
+        GapLines x = Check.store(32, 3, 4, 999, 5);
+        for (int l = 0; l < 32; l++) {
+            x.write(l, 500 + l);
+        }
+        x.hammer(7, 170);
+        String before = Check.seen(x);
+        x.save(0);
+        x.all(9);
+        x.write(31, 1);
+        x.write(0, 1);
+        x.undo();
+        x.undo();
+        x.undo();
+        C.same("the largest store", before, Check.seen(x));
+        x.make(4, 1, 0);
+        x.undo();
+        C.same("the largest store behind a small one", before, Check.seen(x));
+        x.make(4, 1, 0);
+        x.restore(0);
+        C.same("the largest store of a slot", before, Check.seen(x));
+    }
+
     private static void notTheTextNorTheSlots() {
         GapLines x = Check.example();
         Check.type(x, "L04");
@@ -91,6 +115,7 @@ public final class P17Undo {
     public static void main(String[] args) {
         fourteenStates();
         everything();
+        allPlaces();
         notTheTextNorTheSlots();
         noOtherCallIsAnAction();
         C.end();

@@ -28,6 +28,14 @@ public final class P21BestEvery {
         }
         C.answers("bestEvery(0, 1): all are the same", 50, () -> Check.store(4, 1, 0, 100, 8).bestEvery(0, 1));
         C.answers("bestEvery(0, 500), dead: all are the same", 50, () -> Check.exampleDead().bestEvery(0, 500));
+        // The gap is to take the line away from its worn place before the second write, so 50 is too much.
+        GapLines worn = Check.store(4, 1, 0, 100, 50);
+        worn.hammer(3, 48);
+        C.answers("bestEvery(3, 2): 50 is not the best", 49, () -> worn.bestEvery(3, 2));
+        GapLines low = Check.store(4, 1, 0, 100, 50);
+        low.hammer(3, 1);
+        asTried(low, 3, 13);
+        C.answers("bestEvery(3, 13): the least value is the best", 1, () -> low.bestEvery(3, 13));
         GapLines x = Check.example();
         x.bestEvery(0, 500);
         for (int m : new int[] {0, -1, 501, Integer.MAX_VALUE, Integer.MIN_VALUE}) {

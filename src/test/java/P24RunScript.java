@@ -67,7 +67,16 @@ public final class P24RunScript {
         answer(x, 2, 999999_999999L, 0);
         answer(x, 3, 999999_999999_999999L, 0);
         answer(x, 2, 500008_000000L, 1);
+        // With the setting 1 as 2, both of these would move the gap, and once more than they do.
+        answer(x, 3, 410500_200009_900001L, -1);
+        answer(x, 3, 410010_200003_900003L, -1);
         C.same("the store", Check.EXAMPLE, Check.seen(x));
+        // A command is done once: the last one makes the store dead, and could not be done again.
+        GapLines y = Check.store(4, 1, 0, 5, 50);
+        y.hammer(0, 4);
+        answer(y, 1, 100001L, -1);
+        answer(y, 2, 100001_100001L, 1);
+        answer(y, 3, 400060_100001_100001L, -1);
     }
 
     private static void answer(GapLines x, int n, long script, int due) {
