@@ -36,6 +36,10 @@ final class Check {
         System.out.println(fault);
     }
 
+    boolean isRight() {
+        return wrong == 0;
+    }
+
     void end() {
         if (wrong != 0) {
             System.out.println(wrong + " answers are not as due");
