@@ -16,7 +16,7 @@ public final class Edges06About {
         t.refuses("-1 of a dead store", Check.ARGUMENT, Stores::dead, x -> x.about(-1));
         t.refuses("12 of a dead store", Check.ARGUMENT, Stores::dead, x -> x.about(12));
 
-        t.of("0: the lines, 0 without a store (1 to 11 are 0 without a store)");
+        t.of("0: the lines, 0 without a store; ... (1 to 11 are 0 without a store)");
         for (int what = 0; what <= 11; what++) {
             int number = what;
             t.answers(what + " of a new object", 0, GapLines::new, x -> x.about(number));

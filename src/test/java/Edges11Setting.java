@@ -18,8 +18,11 @@ public final class Edges11Setting {
         t.answers("the greatest setting 1", 50, () -> set(5, 50), x -> x.setting(1));
         t.changesNothing("it changes nothing", Stores::rich, x -> x.setting(1));
 
-        t.of("Throws `IllegalArgumentException` if what is out of range");
+        t.of("`what`: 0 or 1");
         t.refusesBeyondRange("what", 0, 1, GapLines::setting);
+
+        t.of("Throws `IllegalArgumentException` if what is out of range");
+        t.refuses("-1 without a store", Check.ARGUMENT, GapLines::new, x -> x.setting(-1));
         t.refuses("2 without a store", Check.ARGUMENT, GapLines::new, x -> x.setting(2));
         t.end();
     }

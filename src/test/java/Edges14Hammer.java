@@ -54,6 +54,8 @@ public final class Edges14Hammer {
 
         t.of("`m`: 1 to 500");
         t.refusesBeyondRange("m", 1, 500, (x, m) -> x.hammer(0, m));
+
+        t.of("Throws `IllegalArgumentException` if m is out of range");
         t.refuses("m is 0, and the store is dead", Check.ARGUMENT, Stores::dead, x -> x.hammer(0, 0));
         t.refuses("m is 501, and the store is dead", Check.ARGUMENT, Stores::dead, x -> x.hammer(0, 501));
 

@@ -31,6 +31,8 @@ public final class Edges16Set {
         t.of("`v`: the new value, in its range");
         t.refusesBeyondRange("v of setting 0", 5, 999, (x, v) -> x.set(0, v));
         t.refusesBeyondRange("v of setting 1", 1, 50, (x, v) -> x.set(1, v));
+
+        t.of("Throws `IllegalArgumentException` if what or v is out of range");
         t.refuses("v is right for setting 1 alone", Check.ARGUMENT, x -> x.set(0, 1));
         t.refuses("v is right for setting 0 alone", Check.ARGUMENT, x -> x.set(1, 999));
         t.refuses("what and v are out of range", Check.ARGUMENT, x -> x.set(-1, 0));

@@ -11,10 +11,10 @@ public final class Edges20IfEvery {
         t.answers("one more than 49", 49, Stores::calm, x -> x.ifEvery(3, 49, 50));
         t.answers("500 writes at one place", 500, () -> Stores.calm(32), x -> x.ifEvery(0, 50, 500));
         t.answers("499 writes at one place", 499, () -> Stores.calm(32), x -> x.ifEvery(0, 50, 499));
-        t.answers("9 writes were done since the gap moved last: it moves by the next one", 10, Edges20IfEvery::writtenBefore,
-                x -> x.ifEvery(3, 10, 2));
-        t.answers("9 writes were done since the gap moved last: it moves by the second", 11, Edges20IfEvery::writtenBefore,
-                x -> x.ifEvery(3, 11, 2));
+        t.answers("9 writes were done since the gap moved last: it moves by the next one", 10,
+                Edges20IfEvery::writtenBefore, x -> x.ifEvery(3, 10, 2));
+        t.answers("9 writes were done since the gap moved last: it moves by the second", 11,
+                Edges20IfEvery::writtenBefore, x -> x.ifEvery(3, 11, 2));
         t.answers("9 writes were done since the gap moved last, more than every", 10, Edges20IfEvery::writtenBefore,
                 x -> x.ifEvery(3, 2, 2));
         t.answers("the setting 1 that there is does not matter", 49, () -> Check.store(4, 1, 0, 999, 1),
@@ -31,10 +31,14 @@ public final class Edges20IfEvery {
 
         t.of("`every`: 1 to 50");
         t.refusesBeyondRange("every", 1, 50, (x, every) -> x.ifEvery(0, every, 1));
-        t.refuses("every is 51, and the store is dead", Check.ARGUMENT, Stores::dead, x -> x.ifEvery(0, 51, 1));
 
         t.of("`m`: 1 to 500");
         t.refusesBeyondRange("m", 1, 500, (x, m) -> x.ifEvery(0, 1, m));
+
+        t.of("Throws `IllegalArgumentException` if another argument is out of range");
+        t.refuses("every and m are too small", Check.ARGUMENT, x -> x.ifEvery(0, 0, 0));
+        t.refuses("every and m are too large", Check.ARGUMENT, x -> x.ifEvery(3, 51, 501));
+        t.refuses("every is 51, and the store is dead", Check.ARGUMENT, Stores::dead, x -> x.ifEvery(0, 51, 1));
         t.refuses("m is 501, and the store is dead", Check.ARGUMENT, Stores::dead, x -> x.ifEvery(0, 1, 501));
 
         t.of("Throws `IndexOutOfBoundsException` if there is no such line");

@@ -13,6 +13,12 @@ public final class Edges21BestEvery {
         t.answers("2 to 49 are the same", 49, Edges21BestEvery::worn, x -> x.bestEvery(3, 2));
         t.answers("50 is as good as all others for the next write", 50, Edges21BestEvery::worn,
                 x -> x.bestEvery(3, 1));
+        // The gap is at a place that is worn 50 times, and by 50 writes all values move it once or more.
+        t.answers("51 would be better than all others, but is none", 50, () -> {
+            GapLines x = Stores.calm();
+            x.hammer(3, 50);
+            return x;
+        }, x -> x.bestEvery(0, 50));
         t.test("it is the last of those with which ifEvery() is least", c -> {
             for (int m : new int[] {1, 49, 50, 51, 500}) {
                 GapLines x = Check.store(4, 3, 4, 30, 8);
@@ -31,6 +37,9 @@ public final class Edges21BestEvery {
 
         t.of("`m`: 1 to 500");
         t.refusesBeyondRange("m", 1, 500, (x, m) -> x.bestEvery(0, m));
+
+        t.of("Throws `IllegalArgumentException` if m is out of range");
+        t.refuses("m is 0, and the store is dead", Check.ARGUMENT, Stores::dead, x -> x.bestEvery(0, 0));
         t.refuses("m is 501, and the store is dead", Check.ARGUMENT, Stores::dead, x -> x.bestEvery(0, 501));
 
         t.of("Throws `IndexOutOfBoundsException` if there is no such line");

@@ -32,6 +32,10 @@ public final class Edges23PlaceBehind {
         t.of("`m`: 0 to 9999");
         t.refusesBeyondRange("m", 0, 9999, (x, m) -> x.placeBehind(0, m));
 
+        t.of("Throws `IllegalArgumentException` if m is out of range");
+        t.refuses("m is -1, and the store is dead", Check.ARGUMENT, Stores::dead, x -> x.placeBehind(0, -1));
+        t.refuses("m is 10000, and the store is dead", Check.ARGUMENT, Stores::dead, x -> x.placeBehind(0, 10000));
+
         t.of("Throws `IndexOutOfBoundsException` if there is no such line");
         t.refusesLinesBeyond((x, l) -> x.placeBehind(l, 0));
         t.refuses("and m is too small", Check.INDEX, x -> x.placeBehind(4, -1));

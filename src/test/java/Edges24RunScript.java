@@ -22,6 +22,11 @@ public final class Edges24RunScript {
     private static void numberAndScript(Sentences t) {
         t.of("`n`: number of commands, 1 to 3");
         t.refusesBeyondRange("n", 1, 3, (x, n) -> x.runScript(n, 800000));
+        t.answers("a script of 1 command", -1, Stores::rich, x -> x.runScript(1, 800000));
+        t.answers("a script of 3 commands", -1, Stores::rich, x -> x.runScript(3, 800000_800000_800000L));
+
+        t.of("Throws `IllegalArgumentException` if n is out of range,"
+                + " or if script is negative or has more than 6 * n digits");
         t.refuses("n is 0, and the script, too", Check.ARGUMENT, x -> x.runScript(0, 0));
         t.refuses("n is 4, and the script has 24 digits at most", Check.ARGUMENT,
                 x -> x.runScript(4, 1_000_000_000_000_000_000L));
@@ -72,7 +77,12 @@ public final class Edges24RunScript {
         runs(t, "the last command sees what the first has written", 3, 100999_101000_500999L, -1);
         runs(t, "a command sees that the store is dead by the one before", 2, 200500_800001L, -1);
         runs(t, "a command fails as the store is dead by the one before", 2, 200500_100000L, 1);
-        runs(t, "a command sees the setting that is changed", 3, 410010_100001_900000L, -1);
+        runs(t, "a command sees the setting 0 that is changed", 3, 409990_200500_800000L, -1);
+        runs(t, "a command sees the setting 1 that is changed", 3, 410500_100001_900001L, -1);
+        t.answers("the last command is done once: by it the store is dead", -1, () -> Stores.gapAtThree(0),
+                x -> x.runScript(1, 100001));
+        t.answers("a command behind that one fails", 1, () -> Stores.gapAtThree(0),
+                x -> x.runScript(2, 100001_100001L));
         t.changesNothing("the state stays, though the copy dies", Stores::rich,
                 x -> x.runScript(3, 409990_410500_200500L));
         t.changesNothing("the state stays, though the last command fails", Stores::rich,
@@ -208,7 +218,14 @@ public final class Edges24RunScript {
     }
 
     private static void others(Sentences t) {
-        t.of("commands with lines or places that do not exist fail, and so does any other group");
+        t.of("The commands 1 to 4 fail if the method would throw an exception;");
+        fails(t, "write(), as the store is dead", Stores::dead, 100008);
+        fails(t, "hammer(), as there are too many", Stores::rich, 203501);
+        fails(t, "all(), as there are too many", Stores::rich, 300099);
+        fails(t, "set(), as the value is too small", Stores::rich, 400040);
+
+        t.of("commands with lines or places that do not exist fail, and so does any other group"
+                + " (also one with another digit where a 0 is written, or a b above 1).");
         fails(t, "zeros alone", Stores::rich, 0);
         fails(t, "the first digit is 0", Stores::rich, 99999);
         fails(t, "nines alone", Stores::rich, 999999);

@@ -48,6 +48,22 @@ public final class Edges25Simulate {
     }
 
     private static void answers(Sentences t) {
+        t.of("nothing is done without a store");
+        t.changesNothing("no store yet", GapLines::new, x -> x.simulate(1, 300));
+        t.answers("no store yet: there is none behind it", 0, GapLines::new, x -> {
+            x.simulate(1, 300);
+            return x.about(0) + x.about(11);
+        });
+
+        t.of("it is written with the value r / 128 % 1000, if the store is not dead.");
+        t.answers("it is dead from the beginning", 5, Stores::dead, x -> x.simulate(seedOf(0), 1));
+        t.answers("it is dead from the beginning, 300 writes", 5, Stores::dead, x -> x.simulate(seedOf(0), 300));
+        t.answers("it is dead by the first write: the second is not done", 5, () -> frail(3), x -> {
+            x.write(0, 1);
+            return x.simulate(seedOf(0), 300);
+        });
+        t.answers("one write less: it is not dead yet", 4, () -> frail(3), x -> x.simulate(seedOf(0), 1));
+
         t.of("Returns 1000 * (the moves of the gap in them) + (the greatest wear of a place at the end);"
                 + " 0 without a store.");
         t.answers("no store yet, one write", 0, GapLines::new, x -> x.simulate(1, 1));
@@ -70,11 +86,8 @@ public final class Edges25Simulate {
         t.answers("50 writes for a move: 6 of 300", 6, () -> Stores.calm(32), x -> x.simulate(1, 300) / 1000);
         t.answers("50 writes for a move: 5 of 299", 5, () -> Stores.calm(32), x -> x.simulate(1, 299) / 1000);
         t.answers("the store is dead already: its wear alone", 5, Stores::dead, x -> x.simulate(1, 300));
-        t.answers("the store is dead by the first write, whichever line it is", 5, () -> {
-            GapLines x = Check.store(4, 1, 0, 5, 50);
-            x.all(4);
-            return x;
-        }, x -> x.simulate(1, 300));
+        t.answers("the store is dead by the first write, whichever line it is", 5, () -> frail(4),
+                x -> x.simulate(1, 300));
         t.answers("the store is dead by the move behind the first write, which counts", 1005,
                 () -> Stores.gapAtThree(0), x -> x.simulate(seedOf(0), 300));
         t.answers("the last spare medium is taken by the first write", 4, () -> {
@@ -83,13 +96,21 @@ public final class Edges25Simulate {
             return x;
         }, x -> x.simulate(seedOf(0), 1));
         t.changesNothing("it changes nothing", Stores::rich, x -> x.simulate(1, 300));
-        t.changesNothing("it changes nothing without a store", GapLines::new, x -> x.simulate(1, 300));
 
         t.of("`m`: number of writes, 1 to 300");
         t.refusesBeyondRange("m", 1, 300, (x, m) -> x.simulate(1, m));
+
+        t.of("Throws `IllegalArgumentException` if m is out of range");
         t.refuses("m is 0, and there is no store", Check.ARGUMENT, GapLines::new, x -> x.simulate(1, 0));
         t.refuses("m is 301, and there is no store", Check.ARGUMENT, GapLines::new, x -> x.simulate(1, 301));
         t.refuses("m is 301, and the store is dead", Check.ARGUMENT, Stores::dead, x -> x.simulate(1, 301));
+    }
+
+    /** Each place of 4 but the gap is worn so often, where a medium can be written 5 times. */
+    private static GapLines frail(int times) {
+        GapLines x = Check.store(4, 1, 0, 5, 50);
+        x.all(times);
+        return x;
     }
 
     /** The gap moves by 9 writes, and the line 0 has been written so often. */

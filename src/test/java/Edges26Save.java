@@ -70,9 +70,13 @@ public final class Edges26Save {
             return x;
         }, x -> x.save(0));
 
+        t.of("`slot`: 0 or 1");
+        t.refuses("-1 is one too small", Check.INDEX, x -> x.save(-1));
+        t.allows("0 is the least that is allowed", x -> x.save(0));
+        t.allows("1 is the greatest that is allowed", x -> x.save(1));
+        t.refuses("2 is one too large", Check.INDEX, x -> x.save(2));
+
         t.of("Throws `IndexOutOfBoundsException` if there is no such save slot");
-        t.refuses("the slot -1", Check.INDEX, x -> x.save(-1));
-        t.refuses("the slot 2", Check.INDEX, x -> x.save(2));
         t.refuses("the least int", Check.INDEX, x -> x.save(Integer.MIN_VALUE));
         t.refuses("the greatest int", Check.INDEX, x -> x.save(Integer.MAX_VALUE));
         t.refuses("the slot 2 without a store", Check.INDEX, GapLines::new, x -> x.save(2));

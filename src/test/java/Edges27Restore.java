@@ -8,6 +8,12 @@ public final class Edges27Restore {
         return x;
     }
 
+    private static GapLines bothSaved() {
+        GapLines x = Stores.rich();
+        x.save(0);
+        return x;
+    }
+
     public static void main(String[] args) {
         Sentences t = new Sentences("Promise 27");
         t.of("Replaces the state by the one in a save slot, and forgets all remembered states."
@@ -77,9 +83,13 @@ public final class Edges27Restore {
         });
         t.answers("a dead store was saved", 12, Stores::dead, x -> x.restore(1));
 
+        t.of("`slot`: 0 or 1");
+        t.refuses("-1 is one too small", Check.INDEX, Edges27Restore::bothSaved, x -> x.restore(-1));
+        t.allows("0 is the least that is allowed", Edges27Restore::bothSaved, x -> x.restore(0));
+        t.allows("1 is the greatest that is allowed", Edges27Restore::bothSaved, x -> x.restore(1));
+        t.refuses("2 is one too large", Check.INDEX, Edges27Restore::bothSaved, x -> x.restore(2));
+
         t.of("Throws `IndexOutOfBoundsException` if there is no such save slot");
-        t.refuses("the slot -1", Check.INDEX, x -> x.restore(-1));
-        t.refuses("the slot 2", Check.INDEX, x -> x.restore(2));
         t.refuses("the least int", Check.INDEX, x -> x.restore(Integer.MIN_VALUE));
         t.refuses("the greatest int", Check.INDEX, x -> x.restore(Integer.MAX_VALUE));
         t.refuses("the slot 2, and nothing has been saved", Check.INDEX, GapLines::new, x -> x.restore(2));

@@ -176,6 +176,23 @@ public final class EdgesActions {
             c.same("the state", before, Check.seen(x));
         });
 
+        t.of("what would be; these and all following methods up to the save slots change nothing");
+        t.changesNothing("life(), behind which the store would be dead", Stores::rich, x -> x.life(0));
+        t.changesNothing("lifeOfAll(), behind which the store would be dead", Stores::rich, GapLines::lifeOfAll);
+        t.changesNothing("ifEvery() of another setting 1", Stores::rich, x -> x.ifEvery(0, 50, 500));
+        t.changesNothing("bestEvery()", Stores::rich, x -> x.bestEvery(3, 500));
+        t.changesNothing("movesTo()", Stores::rich, x -> x.movesTo(3));
+        t.changesNothing("placeBehind() of the greatest number", Stores::rich, x -> x.placeBehind(3, 9999));
+        t.changesNothing("runScript() of commands that change all", Stores::rich,
+                x -> x.runScript(3, 409990_410500_203500L));
+        t.changesNothing("runScript() of a command that fails", Stores::rich, x -> x.runScript(2, 103999_104999L));
+        t.changesNothing("simulate() of the greatest number", Stores::rich, x -> x.simulate(7, 300));
+        t.changesNothing("life() of a store where 14 states are remembered", () -> {
+            GapLines x = Stores.remembering(13);
+            x.make(4, 1, 0);
+            return x;
+        }, x -> x.life(0));
+
         t.of("load and restore are not actions.");
         t.refuses("undo behind load", Check.STATE, () -> Check.loaded("L04010a1"), GapLines::undo);
         t.refuses("undo behind load, where states were remembered", Check.STATE, () -> {

@@ -142,6 +142,15 @@ public final class EdgesText {
         due(t, "a number of h begins with 0", "L04010h000", 10);
         due(t, "a number of h begins with 9", "L04010h009", 10);
 
+        due(t, "the sign ahead of 0 is no digit of the lines", "L0/010", 2);
+        due(t, "the sign behind 9 is no digit of the lines", "L0:010", 2);
+        due(t, "the sign behind 9 is no digit of the key", "L040:0", 4);
+        due(t, "the sign ahead of 0 is no digit of a line", "L04010w0/000", 8);
+        due(t, "the sign behind 9 is no digit of a line", "L04010w0:000", 8);
+        due(t, "the sign ahead of 0 is no digit of a value", "L04010w0000/", 11);
+        due(t, "the sign behind 9 is no digit of a value", "L04010w0000:", 11);
+        due(t, "the sign behind 9 is no digit of a number of h", "L04010h000:", 10);
+
         t.of("if the text ends too soon, it is the length of the text");
         String whole = "L04010w31999h3199a9";
         for (int length : new int[] {0, 1, 2, 3, 4, 5, 7, 8, 9, 10, 11, 13, 14, 15, 16, 18}) {

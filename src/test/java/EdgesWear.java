@@ -67,10 +67,7 @@ public final class EdgesWear {
     /** The line 0 of a store of 32 lines, which the gap does not reach by so few writes. */
     private static GapLines written(int spares, int endurance, int writes) {
         GapLines x = Check.store(32, 1, spares, endurance, 50);
-        int left = writes;
-        while (left > 0) {
-            left -= x.hammer(0, Math.min(left, 500));
-        }
+        Stores.hammer(x, writes);
         return x;
     }
 

@@ -108,7 +108,7 @@ final class Sentences {
         allows("the last " + what + " of 32 lines exists", () -> Stores.moved(32, 5, 3), x -> on.call(x, most - 1));
     }
 
-    /** An argument that is no line: what lies just beyond its range is refused, its least and greatest value are not. */
+    /** An argument that is no line: what lies beyond its range is refused, its least and greatest value are not. */
     void refusesBeyondRange(String name, int least, int most, OnNumber on) {
         refuses(name + " is " + (least - 1) + ", one too small", Check.ARGUMENT, x -> on.call(x, least - 1));
         refuses(name + " is " + (most + 1) + ", one too large", Check.ARGUMENT, x -> on.call(x, most + 1));

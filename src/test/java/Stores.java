@@ -31,11 +31,15 @@ final class Stores {
     /** A store whose gap has moved so often, by as many writes of the line 0. */
     static GapLines moved(int n, int key, int moves) {
         GapLines x = Check.store(n, key, 4, 999, 1);
-        int left = moves;
-        while (left > 0) {
-            left -= x.hammer(0, Math.min(left, 500));
-        }
+        hammer(x, moves);
         return x;
+    }
+
+    /** Writes the line 0 so often, also more than 500 times. */
+    static void hammer(GapLines x, int times) {
+        for (int left = times; left > 0; left -= 500) {
+            x.hammer(0, Math.min(left, 500));
+        }
     }
 
     /** An object with so many states remembered: the setting 0 was made 101, 102, and so on. */
